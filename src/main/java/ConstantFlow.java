@@ -293,7 +293,8 @@ public final class ConstantFlow {
     private static final class Program {
         private int blocks;
         private int statements;
-        // Block b has the statements from first[b] up to, but without, first[b + 1].
+        // Block b has the statements from first[b] up to, but without, first[b + 1]; first[0] is
+        // 0 at all times.
         private final int[] first = new int[BLOCKS_MOST + 1];
         private final int[] assigned = new int[STATEMENTS_MOST];
         private final int[] operators = new int[STATEMENTS_MOST];
@@ -327,7 +328,6 @@ public final class ConstantFlow {
         void empty() {
             blocks = 0;
             statements = 0;
-            first[0] = 0;
         }
 
         void setOperand(int slot, boolean variable, int held) {
@@ -375,7 +375,15 @@ public final class ConstantFlow {
             at = 0;
             fault = 0;
             faultPlace = NONE;
-            return fillBlocks() && allGoalsThere();
+            for (int i = 0; i < BLOCKS_MOST; i++) {
+                if (!fillStatements() || !fillEnd()) {
+                    return false;
+                }
+                if (next() == NOTHING) {
+                    return allGoalsThere();
+                }
+            }
+            return refuse(TOO_MANY, at);
         }
 
         private boolean refuse(int kind, int where) {
@@ -400,132 +408,101 @@ public final class ConstantFlow {
             return true;
         }
 
-        private boolean fillBlocks() {
-            for (int i = 0; i < BLOCKS_MOST; i++) {
-                if (!fillBlock()) {
-                    return false;
-                }
-                if (next() == NOTHING) {
-                    return true;
-                }
-            }
-            return refuse(TOO_MANY, at);
-        }
-
-        private boolean fillBlock() {
-            for (int i = 0; i <= STATEMENTS_MOST; i++) {
-                int found = next();
-                if (!isLetter(found)) {
-                    return fillEnd(found);
-                }
+        private boolean fillStatements() {
+            for (int i = 0; i <= STATEMENTS_MOST && isLetter(next()); i++) {
                 int place = at;
+                int variable = next() - 'a';
                 at++;
-                // Only the byte behind a letter tells a statement from an end.
+                // Only the byte behind the letter tells a statement from an end.
                 if (next() != '=') {
-                    program.setOperand(Program.ofEnd(program.blocks), true, found - 'a');
-                    return fillBranch();
+                    at = place;
+                    return true;
                 }
                 if (program.statements >= STATEMENTS_MOST) {
                     return refuse(TOO_MANY, place);
                 }
                 at++;
-                if (!fillStatement(found - 'a')) {
+                if (!fillStatement(variable)) {
                     return false;
                 }
             }
-            return refuse(TOO_MANY, at);
+            return true;
         }
 
         private boolean fillStatement(int variable) {
             int statement = program.statements;
+            program.statements++;
             program.assigned[statement] = variable;
             program.operators[statement] = ASKS;
             if (next() == '?') {
                 at++;
-            } else if (!fillOperands(statement)) {
-                return false;
+                return pass(';');
             }
-            program.statements++;
-            return pass(';');
-        }
-
-        private boolean fillOperands(int statement) {
             program.operators[statement] = COPIES;
             if (!fillOperand(Program.left(statement))) {
                 return false;
             }
             int found = next();
-            if (!isOperator(found)) {
-                return true;
+            if (isOperator(found)) {
+                at++;
+                program.operators[statement] = found;
+                if (!fillOperand(Program.right(statement))) {
+                    return false;
+                }
             }
-            at++;
-            program.operators[statement] = found;
-            return fillOperand(Program.right(statement));
+            return pass(';');
         }
 
         private boolean fillOperand(int slot) {
             int found = next();
-            if (!isLetter(found)) {
-                return fillNumber(slot);
-            }
-            at++;
-            program.setOperand(slot, true, found - 'a');
-            return true;
-        }
-
-        private boolean fillNumber(int slot) {
-            boolean negative = next() == '-';
-            int place = at;
-            if (negative) {
+            if (isLetter(found)) {
                 at++;
+                program.setOperand(slot, true, found - 'a');
+                return true;
             }
-            if (!passFigures(place, negative)) {
+            if (!passNumber(true)) {
                 return false;
             }
             program.setOperand(slot, false, lastNumber);
             return true;
         }
 
-        private boolean fillEnd(int found) {
-            if (found == '.') {
+        private boolean fillEnd() {
+            int found = next();
+            int kind = found == '.' ? STOPS : found == '>' ? GOES : BRANCHES;
+            if (kind != BRANCHES) {
                 at++;
-                program.closeBlock(STOPS);
-                return true;
-            }
-            if (found == '>') {
-                at++;
-                if (!fillGoal(0)) {
-                    return false;
-                }
-                program.closeBlock(GOES);
-                return true;
-            }
-            return fillNumber(Program.ofEnd(program.blocks)) && fillBranch();
-        }
-
-        /** An end of the third kind, from the ? on. */
-        private boolean fillBranch() {
-            if (!pass('?') || !fillGoal(0) || !pass(':') || !fillGoal(1)) {
+            } else if (!fillOperand(Program.ofEnd(program.blocks)) || !pass('?')) {
                 return false;
             }
-            program.closeBlock(BRANCHES);
+            if (kind != STOPS && !fillGoal(0)) {
+                return false;
+            }
+            if (kind == BRANCHES && (!pass(':') || !fillGoal(1))) {
+                return false;
+            }
+            program.closeBlock(kind);
             return true;
         }
 
         private boolean fillGoal(int which) {
+            int slot = Program.goalSlot(program.blocks, which);
             next();
-            int place = at;
-            if (!passFigures(place, false)) {
+            goalPlaces[slot] = at;
+            if (!passNumber(false)) {
                 return false;
             }
-            int slot = Program.goalSlot(program.blocks, which);
             program.goals[slot] = lastNumber;
-            goalPlaces[slot] = place;
             return true;
         }
 
-        /** Reads figures into lastNumber, of a number that begins at place. */
-        private boolean passFigures(int place, boolean negative) {
+        /** Reads the number that begins just here into lastNumber. */
+        private boolean passNumber(boolean mayBeNegative) {
+            int place = at;
+            boolean negative = mayBeNegative && tape.byteAt(at) == '-';
+            if (negative) {
+                at++;
+            }
             if (!isFigure(tape.byteAt(at))) {
                 return refuse(UNFIT_BYTE, at);
             }
@@ -553,7 +530,7 @@ public final class ConstantFlow {
     /** What is known of all variables at one place of a program that is come to. */
     private static final class View {
         private final boolean[] any = new boolean[VARIABLES];
-        // 0 for a variable that is ANY.
+        // Means nothing for a variable that is ANY.
         private final int[] numbers = new int[VARIABLES];
 
         void become(View other) {
@@ -569,7 +546,6 @@ public final class ConstantFlow {
             for (int i = 0; i < VARIABLES; i++) {
                 if (!any[i] && (other.any[i] || other.numbers[i] != numbers[i])) {
                     any[i] = true;
-                    numbers[i] = 0;
                     changed = true;
                 }
             }
@@ -580,14 +556,10 @@ public final class ConstantFlow {
             return !program.isVariable[slot] || !any[program.operands[slot]];
         }
 
-        /** The number of an operand; 0 when it is ANY. */
+        /** The number of an operand; it means nothing when that is ANY. */
         int numberOf(Program program, int slot) {
             int held = program.operands[slot];
             return program.isVariable[slot] ? numbers[held] : held;
-        }
-
-        private boolean isZero(Program program, int slot) {
-            return knows(program, slot) && numberOf(program, slot) == 0;
         }
 
         /** Whether a statement's value is a number. */
@@ -598,30 +570,32 @@ public final class ConstantFlow {
             if (operator == ASKS) {
                 return false;
             }
+            boolean knowsLeft = knows(program, left);
             if (operator == COPIES) {
-                return knows(program, left);
+                return knowsLeft;
             }
-            if ((operator == '*' || operator == '&')
-                    && (isZero(program, left) || isZero(program, right))) {
-                return true;
+            boolean knowsRight = knows(program, right);
+            if (knowsLeft == knowsRight || operator != '*' && operator != '&') {
+                return knowsLeft && knowsRight;
             }
-            return knows(program, left) && knows(program, right);
+            return numberOf(program, knowsLeft ? left : right) == 0;
         }
 
         /** The value of a statement that settles. */
         int settled(Program program, int statement) {
-            // An operand that is ANY counts as 0 here: 0 times it and 0 & it are 0 with any number.
+            // One operand may be ANY: 0 times it and 0 & it are 0, whatever stands for it here.
             int x = numberOf(program, Program.left(statement));
             int y = numberOf(program, Program.right(statement));
             return reckon(program.operators[statement], x, y);
         }
 
         void assign(Program program, int statement) {
-            boolean settles = settles(program, statement);
-            int now = settles ? settled(program, statement) : 0;
             int variable = program.assigned[statement];
+            boolean settles = settles(program, statement);
+            if (settles) {
+                numbers[variable] = settled(program, statement);
+            }
             any[variable] = !settles;
-            numbers[variable] = now;
         }
     }
 

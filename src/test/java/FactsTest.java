@@ -160,22 +160,33 @@ public final class FactsTest {
         CHECKS.due("a number: known", y.known(0, 0, false), 1);
     }
 
-    /** Backward chains need as many rounds as there are blocks, times the variables. */
     private static void longChains() {
-        StringBuilder text = new StringBuilder("a=?;>23");
-        for (int block = 1; block < 23; block++) {
-            text.append("h=g;g=f;f=e;".substring(0, block % 4 * 4 > 12 ? 12 : block % 4 * 4));
-            text.append(">").append(block - 1 == 0 ? 1 : block - 1).append(' ');
+        // From block 23 down to block 1, so that each is come to a round later than the one above.
+        StringBuilder down = new StringBuilder("a=?;>23 .");
+        for (int block = 2; block < 24; block++) {
+            down.append("b=b+1;>").append(block - 1).append(' ');
         }
-        text.append(">22");
-        ConstantFlow x = Checks.loaded(text.toString());
-        CHECKS.due("chain: told(1)", x.told(1), 24);
-        CHECKS.due("chain: beginning of 1", Checks.facts(x, 1, false), "? 0 0 0 0 0 0 0");
-        // b .. h become ANY one after the other, each in a round of its own through the loop.
-        ConstantFlow y = Checks.loaded(">2 . h=g;g=f;f=e;e=d;d=c;c=b;b=a;a=?;i?2:1"
-                .replace('i', 'a'));
+        ConstantFlow x = Checks.loaded(down.toString());
+        CHECKS.due("down: told(1)", x.told(1), 24);
+        CHECKS.due("down: end of 1", Checks.facts(x, 1, true), "? 22 0 0 0 0 0 0");
+        // From a on each variable becomes ANY one turn of the loop later than the one before it.
+        ConstantFlow y = Checks.loaded(">2 . h=g;g=f;f=e;e=d;d=c;c=b;b=a;a=?;a?2:1");
         CHECKS.due("ripple: beginning", Checks.facts(y, 2, false), "? ? ? ? ? ? ? ?");
         CHECKS.due("ripple: block 1", Checks.facts(y, 1, true), "? ? ? ? ? ? ? ?");
+        slowestChain();
+    }
+
+    /** As y above, but each turn of the loop goes down through 22 blocks. */
+    private static void slowestChain() {
+        StringBuilder text = new StringBuilder(">23 .h=g;g=f;f=e;e=d;d=c;c=b;b=a;a=?;a?23:1 ");
+        for (int block = 3; block < 24; block++) {
+            text.append('>').append(block - 1).append(' ');
+        }
+        ConstantFlow x = Checks.loaded(text.toString());
+        for (int block = 1; block < 24; block++) {
+            CHECKS.due("slowest: beginning of " + block, Checks.facts(x, block, false),
+                    "? ? ? ? ? ? ? ?");
+        }
     }
 
     private static void wrongBlocksAndVariables() {
@@ -228,6 +239,10 @@ public final class FactsTest {
         CHECKS.due("read anew: comes(1)", x.comes(1), false);
         CHECKS.due("read anew: beginning", Checks.facts(x, 0, false), ZEROS);
         CHECKS.due("read anew: end", Checks.facts(x, 2, true), "0 1 0 0 0 0 0 0");
+        Checks.load(x, "a=1+2;b=3;b?1:0 .");
+        Checks.load(x, ".");
+        Checks.load(x, "a=?;b=a;.");
+        CHECKS.due("? where an operator was", Checks.facts(x, 0, true), "? ? 0 0 0 0 0 0");
         Checks.load(x, ".");
         CHECKS.due("one block: told", Checks.tallies(x), "1 1 0 0 0 0 0");
         CHECKS.throwsDue("one block: comes(1)", IndexOutOfBoundsException.class, () -> x.comes(1));

@@ -51,6 +51,8 @@ public final class WriteTest {
     private static void numbersBlocksAnew() {
         writes(">2..", ">1.");
         writes(">2 . >4 . >2", ">1>2>1");
+        // Each block is written by the facts at its own beginning.
+        writes(">2 c=a+b;. a=5;b=?;>1", ">2c=5+b;.a=5;b=?;>1");
         writes("a=?;a?3:5 . . >5 . .", "a=?;a?1:2>2.");
         writes("a=1;a?1:2 c=2;>3 c=?;. d=c;.", "a=1;>1c=2;>2d=2;.");
         StringBuilder all = new StringBuilder("a=?;");
@@ -135,7 +137,7 @@ public final class WriteTest {
     }
 
     private static void takeRefusesLongOnes() {
-        // 4 + 49 * 14 + 9 + 1 bytes are 700; one figure more is too long.
+        // Each b=a; is written with ten bytes more than it has here.
         String most = "a=-2147483648;" + "b=a;".repeat(48) + "c=1234;" + "c=12;" + ".";
         ConstantFlow x = Checks.loaded(most);
         int length = x.write();
