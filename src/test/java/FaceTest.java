@@ -58,16 +58,23 @@ public final class FaceTest {
         }
     }
 
-    /** LANGUAGE.md, rule 1: no other method bears the name of a public one; classes are static. */
+    /** LANGUAGE.md, rule 1: no private method has a public one's name; classes are static. */
     private static void checkNamesInside(Checks checks) {
         Set<String> names = new TreeSet<>();
         for (Method method : ConstantFlow.class.getMethods()) {
             names.add(method.getName());
         }
+        checkPrivateNames(checks, ConstantFlow.class, names);
         for (Class<?> inside : ConstantFlow.class.getDeclaredClasses()) {
             checks.due(inside.getName() + " is static",
                     Modifier.isStatic(inside.getModifiers()), true);
-            for (Method method : inside.getDeclaredMethods()) {
+            checkPrivateNames(checks, inside, names);
+        }
+    }
+
+    private static void checkPrivateNames(Checks checks, Class<?> owner, Set<String> names) {
+        for (Method method : owner.getDeclaredMethods()) {
+            if (Modifier.isPrivate(method.getModifiers())) {
                 checks.due(method + " bears a public name",
                         names.contains(method.getName()), false);
             }

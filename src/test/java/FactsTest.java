@@ -1,4 +1,4 @@
-/** Promises 7 to 10: comes, known, number, told. */
+/** Promises 7 to 10, in ordinary cases: comes, known, number, told. */
 public final class FactsTest {
     private static final Checks CHECKS = new Checks();
     private static final String ZEROS = "0 0 0 0 0 0 0 0";
@@ -12,26 +12,14 @@ public final class FactsTest {
         joins();
         loops();
         factsAreTheLeast();
-        blocksNotComeTo();
         longChains();
-        wrongBlocksAndVariables();
         tells();
         readingForgets();
         CHECKS.finish();
     }
 
-    private static void end(String text, int block, String facts) {
-        CHECKS.due("'" + text + "': end of " + block,
-                Checks.facts(Checks.loaded(text), block, true), facts);
-    }
-
-    private static void beginning(String text, int block, String facts) {
-        CHECKS.due("'" + text + "': beginning of " + block,
-                Checks.facts(Checks.loaded(text), block, false), facts);
-    }
-
     private static void makes(String value, int number) {
-        end("a=" + value + ";.", 0, number + " 0 0 0 0 0 0 0");
+        CHECKS.end("a=" + value + ";.", 0, number + " 0 0 0 0 0 0 0");
     }
 
     private static void numbersMakeNumbers() {
@@ -66,98 +54,70 @@ public final class FactsTest {
         makes("2=2", 1);
         makes("2=3", 0);
         makes("0=a", 1);
-        end("a=3;b=a*a;a=b-a;c=a=6;.", 0, "6 9 1 0 0 0 0 0");
-        beginning("a=3;b=a*a;.", 0, ZEROS);
+        CHECKS.end("a=3;b=a*a;a=b-a;c=a=6;.", 0, "6 9 1 0 0 0 0 0");
+        CHECKS.beginning("a=3;b=a*a;.", 0, ZEROS);
     }
 
     private static void anyMakesAny() {
-        end("a=?;b=a;c=a+0;d=0-a;e=a-a;f=a/0;g=a%1;h=a=a;.", 0, "? ? ? ? ? ? ? ?");
-        end("a=?;b=a|-1;c=a^a;d=a<a;e=0/a;f=0%a;g=a<-2147483648;.", 0, "? ? ? ? ? ? ? 0");
-        end("a=?;b=a*1;c=1*a;d=a&1;e=-1&a;f=a*a;g=a&a;.", 0, "? ? ? ? ? ? ? 0");
-        end("a=?;a=5;.", 0, "5 0 0 0 0 0 0 0");
-        end("a=5;a=?;.", 0, "? 0 0 0 0 0 0 0");
+        CHECKS.end("a=?;b=a;c=a+0;d=0-a;e=a-a;f=a/0;g=a%1;h=a=a;.", 0, "? ? ? ? ? ? ? ?");
+        CHECKS.end("a=?;b=a|-1;c=a^a;d=a<a;e=0/a;f=0%a;g=a<-2147483648;.", 0, "? ? ? ? ? ? ? 0");
+        CHECKS.end("a=?;b=a*1;c=1*a;d=a&1;e=-1&a;f=a*a;g=a&a;.", 0, "? ? ? ? ? ? ? 0");
+        CHECKS.end("a=?;a=5;.", 0, "5 0 0 0 0 0 0 0");
+        CHECKS.end("a=5;a=?;.", 0, "? 0 0 0 0 0 0 0");
     }
 
     private static void zeroStandsAgainstAny() {
-        end("a=?;b=a*0;c=0*a;d=a&0;e=0&a;f=a*h;g=h&a;.", 0, "? 0 0 0 0 0 0 0");
-        end("a=?;a=a*0;b=a+1;.", 0, "0 1 0 0 0 0 0 0");
-        end("a=?;b=0|a;c=0^a;d=a+0;e=a/0;.", 0, "? ? ? ? ? 0 0 0");
+        CHECKS.end("a=?;b=a*0;c=0*a;d=a&0;e=0&a;f=a*h;g=h&a;.", 0, "? 0 0 0 0 0 0 0");
+        CHECKS.end("a=?;a=a*0;b=a+1;.", 0, "0 1 0 0 0 0 0 0");
+        CHECKS.end("a=?;b=0|a;c=0^a;d=a+0;e=a/0;.", 0, "? ? ? ? ? 0 0 0");
     }
 
     private static void branchesOnNumbers() {
-        comes("1?1:2..", "yes yes no");
-        comes("0?1:2..", "yes no yes");
-        comes("-1?1:2..", "yes yes no");
-        comes("a?1:2..", "yes no yes");
-        comes("a=5;a?1:2..", "yes yes no");
-        comes("a=?;a=a*0;a?1:2..", "yes no yes");
-        comes("a=?;b=7;b?1:2..", "yes yes no");
-        comes(">2.>1", "yes yes yes");
-        comes("..", "yes no");
+        CHECKS.comes("1?1:2..", "yyn");
+        CHECKS.comes("0?1:2..", "yny");
+        CHECKS.comes("-1?1:2..", "yyn");
+        CHECKS.comes("a?1:2..", "yny");
+        CHECKS.comes("a=5;a?1:2..", "yyn");
+        CHECKS.comes("a=?;a=a*0;a?1:2..", "yny");
+        CHECKS.comes("a=?;b=7;b?1:2..", "yyn");
+        CHECKS.comes(">2.>1", "yyy");
+        CHECKS.comes("..", "yn");
     }
 
     private static void branchesOnAny() {
-        comes("a=?;a?1:2..", "yes yes yes");
-        comes("a=?;a?1:1..", "yes yes no");
-        comes("a=?;a?2:0..", "yes no yes");
-        end("a=?;a?1:2 b=1;>3 b=1;>3 .", 3, "? 1 0 0 0 0 0 0");
-    }
-
-    private static void comes(String text, String wanted) {
-        ConstantFlow x = Checks.loaded(text);
-        StringBuilder got = new StringBuilder();
-        for (int block = 0; block < x.told(0); block++) {
-            got.append(block == 0 ? "" : " ").append(x.comes(block) ? "yes" : "no");
-        }
-        CHECKS.due("'" + text + "': comes", got.toString(), wanted);
+        CHECKS.comes("a=?;a?1:2..", "yyy");
+        CHECKS.comes("a=?;a?1:1..", "yyn");
+        CHECKS.comes("a=?;a?2:0..", "yny");
+        CHECKS.end("a=?;a?1:2 b=1;>3 b=1;>3 .", 3, "? 1 0 0 0 0 0 0");
     }
 
     private static void joins() {
-        beginning("a=?;a?1:2 b=1;c=2;>3 b=1;c=3;>3 .", 3, "? 1 ? 0 0 0 0 0");
-        beginning("a=?;a?1:2 b=0;>3 c=?;>3 .", 3, "? 0 ? 0 0 0 0 0");
-        beginning("a=?;a?1:2 a=4;>3 a=4;>3 .", 3, "4 0 0 0 0 0 0 0");
+        CHECKS.beginning("a=?;a?1:2 b=1;c=2;>3 b=1;c=3;>3 .", 3, "? 1 ? 0 0 0 0 0");
+        CHECKS.beginning("a=?;a?1:2 b=0;>3 c=?;>3 .", 3, "? 0 ? 0 0 0 0 0");
+        CHECKS.beginning("a=?;a?1:2 a=4;>3 a=4;>3 .", 3, "4 0 0 0 0 0 0 0");
         // From a block that is not come to nothing comes.
-        beginning(">2 a=1;>2 .", 2, ZEROS);
+        CHECKS.beginning(">2 a=1;>2 .", 2, ZEROS);
         // Of an end that goes one way nothing comes to the other.
-        beginning("a=1;a?1:2 b=1;>2 .", 2, "1 1 0 0 0 0 0 0");
+        CHECKS.beginning("a=1;a?1:2 b=1;>2 .", 2, "1 1 0 0 0 0 0 0");
     }
 
     private static void loops() {
         // What comes back to block 0 is joined with the zeros.
-        beginning("a=?;b=1;a?0:1 .", 0, "? ? 0 0 0 0 0 0");
-        beginning("a=?;b=0;a?0:1 .", 0, "? 0 0 0 0 0 0 0");
-        end("a=a+1;b=a<9;b?0:1 .", 0, "? ? 0 0 0 0 0 0");
-        beginning("a=1;>1 b=a;a=b*1;b?1:2 .", 1, "1 ? 0 0 0 0 0 0");
-        end("a=1;>1 b=a;a=b*1;b?1:2 .", 1, "1 1 0 0 0 0 0 0");
-        end(">1 a=a+1;c=?;c?1:2 d=a;.", 2, "? 0 ? ? 0 0 0 0");
+        CHECKS.beginning("a=?;b=1;a?0:1 .", 0, "? ? 0 0 0 0 0 0");
+        CHECKS.beginning("a=?;b=0;a?0:1 .", 0, "? 0 0 0 0 0 0 0");
+        CHECKS.end("a=a+1;b=a<9;b?0:1 .", 0, "? ? 0 0 0 0 0 0");
+        CHECKS.beginning("a=1;>1 b=a;a=b*1;b?1:2 .", 1, "1 ? 0 0 0 0 0 0");
+        CHECKS.end("a=1;>1 b=a;a=b*1;b?1:2 .", 1, "1 1 0 0 0 0 0 0");
+        CHECKS.end(">1 a=a+1;c=?;c?1:2 d=a;.", 2, "? 0 ? ? 0 0 0 0");
     }
 
     private static void factsAreTheLeast() {
         // Facts that start from ANY would let block 3 be come to, and a be ANY in block 1.
-        comes("a=1;>1 b=a+0;a?2:3 a=b;>1 a=0;>1", "yes yes yes no");
-        beginning("a=1;>1 b=a+0;a?2:3 a=b;>1 a=0;>1", 1, "1 ? 0 0 0 0 0 0");
-        end("a=1;>1 b=a+0;a?2:3 a=b;>1 a=0;>1", 1, "1 1 0 0 0 0 0 0");
+        CHECKS.comes("a=1;>1 b=a+0;a?2:3 a=b;>1 a=0;>1", "yyyn");
+        CHECKS.beginning("a=1;>1 b=a+0;a?2:3 a=b;>1 a=0;>1", 1, "1 ? 0 0 0 0 0 0");
+        CHECKS.end("a=1;>1 b=a+0;a?2:3 a=b;>1 a=0;>1", 1, "1 1 0 0 0 0 0 0");
         // A fact found early (c is 0 at block 1) falls when block 2 is found to come there.
-        end(">1 d=?;b=c;d?2:3 c=c+1;>1 .", 3, "0 ? ? ? 0 0 0 0");
-    }
-
-    private static void blocksNotComeTo() {
-        ConstantFlow x = Checks.loaded(">2 a=5;b=?;. .");
-        CHECKS.due("not come to: comes(1)", x.comes(1), false);
-        CHECKS.due("not come to: beginning", Checks.facts(x, 1, false), "- - - - - - - -");
-        CHECKS.due("not come to: end", Checks.facts(x, 1, true), "- - - - - - - -");
-        for (int variable = 0; variable < 8; variable++) {
-            int v = variable;
-            CHECKS.throwsDue("not come to: number(1, " + v + ")", IllegalStateException.class,
-                    () -> x.number(1, v, true));
-            CHECKS.throwsDue("not come to: number(1, " + v + ")", IllegalStateException.class,
-                    () -> x.number(1, v, false));
-        }
-        ConstantFlow y = Checks.loaded("a=?;.");
-        CHECKS.throwsDue("ANY: number", IllegalStateException.class, () -> y.number(0, 0, true));
-        CHECKS.due("ANY at the end: number at the beginning", y.number(0, 0, false), 0);
-        CHECKS.due("ANY: known", y.known(0, 0, true), ConstantFlow.ANY);
-        CHECKS.due("a number: known", y.known(0, 0, false), 1);
+        CHECKS.end(">1 d=?;b=c;d?2:3 c=c+1;>1 .", 3, "0 ? ? ? 0 0 0 0");
     }
 
     private static void longChains() {
@@ -166,11 +126,11 @@ public final class FactsTest {
         for (int block = 2; block < 24; block++) {
             down.append("b=b+1;>").append(block - 1).append(' ');
         }
-        ConstantFlow x = Checks.loaded(down.toString());
+        Flow x = Checks.loaded(down.toString());
         CHECKS.due("down: told(1)", x.told(1), 24);
         CHECKS.due("down: end of 1", Checks.facts(x, 1, true), "? 22 0 0 0 0 0 0");
         // From a on each variable becomes ANY one turn of the loop later than the one before it.
-        ConstantFlow y = Checks.loaded(">2 . h=g;g=f;f=e;e=d;d=c;c=b;b=a;a=?;a?2:1");
+        Flow y = Checks.loaded(">2 . h=g;g=f;f=e;e=d;d=c;c=b;b=a;a=?;a?2:1");
         CHECKS.due("ripple: beginning", Checks.facts(y, 2, false), "? ? ? ? ? ? ? ?");
         CHECKS.due("ripple: block 1", Checks.facts(y, 1, true), "? ? ? ? ? ? ? ?");
         slowestChain();
@@ -182,58 +142,24 @@ public final class FactsTest {
         for (int block = 3; block < 24; block++) {
             text.append('>').append(block - 1).append(' ');
         }
-        ConstantFlow x = Checks.loaded(text.toString());
+        Flow x = Checks.loaded(text.toString());
         for (int block = 1; block < 24; block++) {
             CHECKS.due("slowest: beginning of " + block, Checks.facts(x, block, false),
                     "? ? ? ? ? ? ? ?");
         }
     }
 
-    private static void wrongBlocksAndVariables() {
-        ConstantFlow x = Checks.loaded(">1 .");
-        int[] blocks = {-1, 2, 23, 24, 25, Integer.MIN_VALUE, Integer.MAX_VALUE};
-        for (int block : blocks) {
-            CHECKS.throwsDue("comes(" + block + ")", IndexOutOfBoundsException.class,
-                    () -> x.comes(block));
-            CHECKS.throwsDue("known(" + block + ")", IndexOutOfBoundsException.class,
-                    () -> x.known(block, 0, false));
-            CHECKS.throwsDue("number(" + block + ")", IndexOutOfBoundsException.class,
-                    () -> x.number(block, 0, true));
-        }
-        int[] variables = {-1, 8, 97, Integer.MIN_VALUE, Integer.MAX_VALUE};
-        ConstantFlow y = Checks.loaded("a=?;. .");
-        for (int variable : variables) {
-            // In block 1, which is not come to, the index still counts before the state.
-            for (int block = 0; block < 2; block++) {
-                int b = block;
-                CHECKS.throwsDue("known(.., " + variable + ")", IndexOutOfBoundsException.class,
-                        () -> y.known(b, variable, true));
-                CHECKS.throwsDue("number(.., " + variable + ")", IndexOutOfBoundsException.class,
-                        () -> y.number(b, variable, false));
-            }
-        }
-    }
-
     private static void tells() {
-        tells(".", "1 1 0 0 0 0 0");
-        tells("a=?;b=1;c=a;d=a*0;a?1:2 e=5;0?0:2 >3 f=1;. g=1;a?0:0", "5 4 7 6 4 2 1");
-        tells("5?1:1 . a=1;b=?;a?0:1", "3 2 2 0 0 1 1");
-        tells("a=?;a?1:2 . .", "3 3 1 1 0 1 0");
-        tells("a=a+1;b=a<3;b?0:1 .", "2 2 2 2 0 1 0");
-        tells("a=1;a=2;a=a+a;.", "1 1 3 3 3 0 0");
-        ConstantFlow x = new ConstantFlow();
-        for (int what : new int[] {-1, 7, 8, Integer.MIN_VALUE, Integer.MAX_VALUE}) {
-            CHECKS.throwsDue("told(" + what + ")", IllegalArgumentException.class,
-                    () -> x.told(what));
-        }
-    }
-
-    private static void tells(String text, String wanted) {
-        CHECKS.due("'" + text + "': told", Checks.tallies(Checks.loaded(text)), wanted);
+        CHECKS.tells(".", "1 1 0 0 0 0 0");
+        CHECKS.tells("a=?;b=1;c=a;d=a*0;a?1:2 e=5;0?0:2 >3 f=1;. g=1;a?0:0", "5 4 7 6 4 2 1");
+        CHECKS.tells("5?1:1 . a=1;b=?;a?0:1", "3 2 2 0 0 1 1");
+        CHECKS.tells("a=?;a?1:2 . .", "3 3 1 1 0 1 0");
+        CHECKS.tells("a=a+1;b=a<3;b?0:1 .", "2 2 2 2 0 1 0");
+        CHECKS.tells("a=1;a=2;a=a+a;.", "1 1 3 3 3 0 0");
     }
 
     private static void readingForgets() {
-        ConstantFlow x = Checks.loaded("a=?;b=?;c=5;a?1:2 >0 >1");
+        Flow x = Checks.loaded("a=?;b=?;c=5;a?1:2 >0 >1");
         Checks.load(x, "b=b+1;b?2:1 . .");
         CHECKS.due("read anew: told", Checks.tallies(x), "3 2 1 1 1 1 1");
         CHECKS.due("read anew: comes(1)", x.comes(1), false);

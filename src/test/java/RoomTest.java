@@ -1,57 +1,50 @@
 import com.sun.management.ThreadMXBean;
 import java.lang.management.ManagementFactory;
 
-/** All calls of a run live in one room: a new object is small, and no call makes more. */
+/** All calls of a run live in one room: the dearest 512 calls of one object leave it half empty. */
 public final class RoomTest {
+    // 7.3 million fields and elements, of four bytes each.
+    private static final long ROOM = 7300000L * 4;
     private static final ThreadMXBean BEAN =
             (ThreadMXBean) ManagementFactory.getThreadMXBean();
-    // What the measuring itself and the virtual machine may need.
-    private static final long SLACK = 20000;
+
+    interface Call {
+        void make(ConstantFlow x);
+    }
 
     public static void main(String[] args) {
         Checks checks = new Checks();
-        String text = "a=?;" + "b=a+c;".repeat(79) + "a?1:0 b?2:0 c?3:1 .";
-        long[] packed = pack(text);
-        // Once before, so that all classes are there when it counts.
-        calls(new ConstantFlow(), packed);
-        long start = BEAN.getCurrentThreadAllocatedBytes();
-        ConstantFlow x = new ConstantFlow();
-        long made = BEAN.getCurrentThreadAllocatedBytes();
-        calls(x, packed);
-        long done = BEAN.getCurrentThreadAllocatedBytes();
-        checks.due("the test has a whole program", x.told(2), 80);
-        checks.due("a new object takes " + (made - start) + " bytes: few enough",
-                made - start < 40000 + SLACK, true);
-        checks.due("the calls take " + (done - made) + " bytes: few enough",
-                done - made < SLACK, true);
+        // Each turn of the long loop makes one more variable ANY.
+        StringBuilder text = new StringBuilder(">23 .h=g;g=f;f=e;e=d;d=c;c=b;b=a;a=?;a?23:1 ");
+        for (int block = 3; block < 24; block++) {
+            text.append("b=a+c;c=b+a;>").append(block - 1).append(' ');
+        }
+        check(checks, "read()", text.toString(), x -> x.read());
+        check(checks, "read() with a fault", text + "x", x -> x.read());
+        check(checks, "number()", text.toString(), x -> x.number(0, 2, true));
+        check(checks, "write()", text.toString(), x -> x.write());
+        check(checks, "written()", text.toString(), x -> x.written(100));
+        check(checks, "run(20000)", text.toString(), x -> x.run(20000));
         checks.finish();
     }
 
-    private static long[] pack(String text) {
-        long[] packed = new long[(text.length() + 7) / 8];
-        for (int i = 0; i < packed.length * 8; i++) {
-            char c = i < text.length() ? text.charAt(i) : ' ';
-            packed[i / 8] |= (long) c << (8 * (i % 8));
-        }
-        return packed;
+    private static void check(Checks checks, String name, String text, Call call) {
+        // Once before, so that all classes are there when it counts.
+        taken(text, call);
+        long bytes = taken(text, call);
+        checks.due(name + ", 400 times: " + bytes + " bytes, few enough", bytes < ROOM / 2, true);
     }
 
-    private static void calls(ConstantFlow x, long[] packed) {
-        for (long eight : packed) {
-            x.feed(8, eight);
+    private static long taken(String text, Call call) {
+        long start = BEAN.getCurrentThreadAllocatedBytes();
+        ConstantFlow x = new ConstantFlow();
+        for (int i = 0; i < text.length(); i += 8) {
+            x.feed(Math.min(8, text.length() - i), Checks.eight(text, i));
         }
-        for (int i = 0; i < 40; i++) {
-            x.read();
-            x.known(1, 2, true);
-            x.number(0, 7, false);
-            x.told(i % 7);
-            x.write();
-            x.written(i);
-            x.input(i);
-            x.run(20000);
-            x.value(1);
+        x.read();
+        for (int i = 0; i < 400; i++) {
+            call.make(x);
         }
-        x.take();
-        x.clear();
+        return BEAN.getCurrentThreadAllocatedBytes() - start;
     }
 }
