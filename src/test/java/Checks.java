@@ -25,8 +25,17 @@ final class Checks {
         done++;
         if (!got.equals(want)) {
             wrong++;
-            System.out.println(sentence + what + " answered " + got + ", due is " + want);
+            System.out.println(printable(sentence + what + " answered " + got + ", due is " + want));
         }
+    }
+
+    /** Bytes that a screen could not show are told by their numbers. */
+    private static String printable(String text) {
+        StringBuilder shown = new StringBuilder();
+        for (char c : text.toCharArray()) {
+            shown.append(c >= 32 && c < 127 ? "" + c : "{" + (int) c + "}");
+        }
+        return shown.toString();
     }
 
     void throwsDue(String what, Class<? extends RuntimeException> want, Call call) {

@@ -243,6 +243,10 @@ public final class FactsEdgesTest {
         // The operand counts behind all statements.
         CHECKS.comes("a=?;a=1;a?1:2 . .", "yyn");
         CHECKS.comes("a=1;a=?;a?1:2 . .", "yyy");
+        // What the operand was is not kept for where the end goes.
+        CHECKS.beginning("a=?;a?1:2 . .", 1, "? 0 0 0 0 0 0 0");
+        CHECKS.beginning("a=?;a?1:2 . .", 2, "? 0 0 0 0 0 0 0");
+        CHECKS.beginning("a=?;b=a=5;b?1:2 . .", 1, "? ? 0 0 0 0 0 0");
         CHECKS.comes("> 2 . .", "yny");
         CHECKS.comes(". >1", "yn");
         CHECKS.comes(">2 >3 . .", "ynyn");
@@ -294,6 +298,9 @@ public final class FactsEdgesTest {
         CHECKS.writes(">23 " + ".".repeat(22) + ">0", ">1>0");
         CHECKS.writes(">1 a=?;>3 . a?1:5 . .", ">1a=?;>2a?1:3.");
         CHECKS.writes(">2 b=2;. a=1;>1", ">2b=2;.a=1;>1");
+        // By the facts at its own beginning, not by those behind the block before it.
+        CHECKS.writes("a=1;b=?;>2 c=a+b;. a=7;>1", "a=1;b=?;>2c=7+b;.a=7;>1");
+        CHECKS.tells("a=?;>2 c=a;. a=7;>1", "3 3 3 3 2 0 0");
         StringBuilder all = new StringBuilder();
         StringBuilder anew = new StringBuilder();
         for (int block = 1; block < 24; block++) {

@@ -38,7 +38,7 @@ public final class RefusedTest {
         CHECKS.finish();
     }
 
-    /** A tape, a program, a fault, a text written, inputs, and a run, all of them different. */
+    /** A tape, a program, a text written, inputs, and a run, all of them different; no fault. */
     private static Flow busy() {
         Flow x = Checks.loaded("a=1;b=2;c=3;.");
         x.write();
@@ -46,13 +46,12 @@ public final class RefusedTest {
         x.input(7);
         x.input(-8);
         x.run(20000);
-        Checks.load(x, "e=5;x");
         x.wipe();
         Checks.feed(x, "f=6;>1 .");
         return x;
     }
 
-    /** As much of everything as there may be. */
+    /** As much of everything as there may be, and a fault. */
     private static Flow full() {
         Flow x = Checks.loaded(LONG);
         x.write();

@@ -1,7 +1,7 @@
 import com.sun.management.ThreadMXBean;
 import java.lang.management.ManagementFactory;
 
-/** All calls of a run live in one room: the dearest 512 calls of one object leave it half empty. */
+/** All calls of a run live in one room: an object's dearest calls leave it half empty. */
 public final class RoomTest {
     // 7.3 million fields and elements, of four bytes each.
     private static final long ROOM = 7300000L * 4;
