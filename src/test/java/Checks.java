@@ -25,7 +25,8 @@ final class Checks {
         done++;
         if (!got.equals(want)) {
             wrong++;
-            System.out.println(printable(sentence + what + " answered " + got + ", due is " + want));
+            String told = what + " answered " + got + ", due is " + want;
+            System.out.println(printable(sentence + told));
         }
     }
 
